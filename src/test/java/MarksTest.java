@@ -16,6 +16,7 @@ public final class MarksTest {
         paid();
         back();
         backByActs();
+        backOfOneCoin();
         theEnd();
         Check.finish("MarksTest");
     }
@@ -272,6 +273,17 @@ public final class MarksTest {
         x.night();
         x.undo(0);
         Check.due("back(0), UNDONE", x.back(0), 0);
+    }
+
+    private static void backOfOneCoin() {
+        StallBook x = Check.withCanons(2);
+        x.box(0, 1);
+        x.mark(1, 0, 6, 1);
+        Check.due("share of one coin", x.share(1, 0, 0), 1);
+        x.night();
+        x.mark(0, 0, 0, 2);
+        Check.due("back(0)", x.back(0), 1);
+        Check.due("back(1)", x.back(1), -1);
     }
 
     private static void theEnd() {

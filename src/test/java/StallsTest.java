@@ -10,6 +10,7 @@ public final class StallsTest {
         moved();
         fallByWorthAndOrder();
         fallTakesEqualWorthNever();
+        newStallIsTheLatestFall();
         longestFall();
         about();
         count();
@@ -145,10 +146,6 @@ public final class StallsTest {
         x.canon();
         x.wish(4, 0, true);
         Check.due("a WISH alone moves nobody", x.about(4, 1), -1);
-        Check.due("leaves(2)", x.leaves(2), 0);
-        x.takes(4, 1);
-        Check.due("stall(5)", x.stall(5), 2);
-        Check.due("a new STALL has no MOVES", x.moved(0, 0), -1);
     }
 
     private static void fallByWorthAndOrder() {
@@ -193,6 +190,20 @@ public final class StallsTest {
         Check.due("about(2, 1)", x.about(2, 1), 2);
     }
 
+    private static void newStallIsTheLatestFall() {
+        StallBook x = Check.withCanons(2);
+        x.stall(10);
+        x.takes(1, 0);
+        x.wish(0, 0, true);
+        Check.due("leaves(1)", x.leaves(1), 1);
+        Check.due("the first CANON moved", x.moved(0, 0), 0);
+        Check.due("stall(1001)", x.stall(1001), -1);
+        Check.due("a refused one keeps the MOVES", x.moved(0, 0), 0);
+        Check.due("stall(20)", x.stall(20), 1);
+        Check.due("a new one has none", x.moved(0, 0), -1);
+        Check.due("count(21)", x.count(21), -1);
+    }
+
     private static void longestFall() {
         StallBook x = Check.withCanons(13);
         for (int stall = 0; stall < 12; stall++) {
@@ -212,6 +223,8 @@ public final class StallsTest {
     private static void about() {
         StallBook x = Check.withCanons(2);
         x.stall(7);
+        x.stall(1000);
+        x.takes(0, 1);
         x.takes(1, 0);
         x.mark(0, 0, 0, 1);
         x.box(0, 50);
@@ -219,7 +232,7 @@ public final class StallsTest {
         x.night();
         Check.due("about(0, 0)", x.about(0, 0), 1);
         Check.due("about(0, 2)", x.about(0, 2), 50);
-        Check.due("about(0, 3)", x.about(0, 3), 0);
+        Check.due("about(0, 3)", x.about(0, 3), 2000);
         Check.due("about(1, 1)", x.about(1, 1), 0);
         Check.due("about(1, 2)", x.about(1, 2), 0);
         Check.due("about(1, 3)", x.about(1, 3), 14);

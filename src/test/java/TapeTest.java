@@ -99,6 +99,9 @@ public final class TapeTest {
     private static void misplaced() {
         faulty("choirs 1", 0, MISPLACED);
         faulty("choi 1", 0, MISPLACED);
+        faulty("ahoir 1", 0, MISPLACED);
+        faulty("choirz 1", 0, MISPLACED);
+        faulty("choira 1", 0, MISPLACED);
         faulty("  choi 1", 2, MISPLACED);
         faulty("Choir 1", 0, MISPLACED);
         faulty("choiR 1", 0, MISPLACED);

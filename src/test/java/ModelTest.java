@@ -3,7 +3,6 @@ import java.util.Random;
 /** Runs of calls drawn from fixed seeds, each answer held against PlainBook's. */
 public final class ModelTest {
     private static final int RUNS = 3000;
-    private static final int CALLS = 512;
     private static final int[] WILD = {-1, 0, 1, 7, 12, 19, 20, 31, 399, 400, 401, 1000, 1001, 100000, 100001,
         Integer.MIN_VALUE, Integer.MAX_VALUE, -2, 0x80000020, 0x7fffffec};
     private static final String[] WORDS = {"choir", "late", "ill", "business", "quorum", "proxy", "hour", "hours", "il"};
@@ -40,7 +39,7 @@ public final class ModelTest {
         for (int i = 0; i < canons; i++) {
             call(1, 0, 0, 0, 0, 0);
         }
-        while (calls < CALLS) {
+        while (calls < Calls.MOST) {
             if (random.nextInt(25) == 0) {
                 wholeVote();
             } else {
@@ -146,46 +145,16 @@ public final class ModelTest {
     }
 
     private void call(int method, int a, int b, int c, int d, int e) {
-        if (calls == CALLS) {
+        if (calls == Calls.MOST) {
             return;
         }
         calls++;
-        int got = answer(method, a, b, c, d, e);
+        int got = Calls.answer(book, method, a, b, c, d, e);
         int want = plain.call(method, a, b, c, d, e);
         if (got != want) {
             Check.due("method " + method + " of " + a + ", " + b + ", " + c + ", " + d + ", " + e, got, want);
             Check.finish("ModelTest");
         }
         Check.due("", got, want);
-    }
-
-    private int answer(int method, int a, int b, int c, int d, int e) {
-        switch (method) {
-            case 0: return book.stall(a);
-            case 1: return book.canon();
-            case 2: return book.wish(a, b, (c & 1) == 1) ? 1 : 0;
-            case 3: return book.takes(a, b) ? 1 : 0;
-            case 4: return book.leaves(a);
-            case 5: return book.moved(a, b);
-            case 6: return book.mark(a, b, c, d);
-            case 7: return book.box(a, b) ? 1 : 0;
-            case 8: return book.night();
-            case 9: return book.marked(a, b, c, d);
-            case 10: return book.points(a, b, c);
-            case 11: return book.share(a, b, c);
-            case 12: return book.paid(a, b);
-            case 13: return book.back(a);
-            case 14: return book.feed(a, b, c, d, e);
-            case 15: return book.end(a);
-            case 16: return book.open();
-            case 17: return book.votes(a, (b & 1) == 1) ? 1 : 0;
-            case 18: return book.gives(a, b) ? 1 : 0;
-            case 19: return book.close(a);
-            case 20: return book.undo(a) ? 1 : 0;
-            case 21: return book.holds(a, b, c);
-            case 22: return book.vote(a);
-            case 23: return book.about(a, b);
-            default: return book.count(a);
-        }
     }
 }

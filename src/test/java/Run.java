@@ -9,6 +9,7 @@ import java.util.List;
  *   400 x night() = 400      so many times; the answer is that of the last
  *   tape('choir 1')          puts a text on the TAPE, in place of what was there
  *   open() = fault 6 1       -2 - the FAULT at this place, of this kind
+ *   back(3) = any            whatever it answers
  *
  * Behind each call that was refused, or only asks, the book is held against one on which
  * that call was never made: it must be as it was.
@@ -119,7 +120,7 @@ final class Run {
         String what = sentence + ": " + call.told();
         if (tail.isEmpty()) {
             Check.due(what + " (" + got + ") is done", got >= 0 && !call.isRefused(got), true);
-        } else {
+        } else if (!tail.equals("= any")) {
             Check.due(what, got, wanted(tail.substring(1).strip()));
         }
         if (call.asks() || call.isRefused(got)) {

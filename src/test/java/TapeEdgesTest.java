@@ -26,21 +26,26 @@ public final class TapeEdgesTest {
     private static void feed() {
         Run.shows("16: how many it has", "feed(1, 2, 3, 4, 5) = 20; feed(1, 2, 3, 4, 5) = 40; count(6) = 40");
         Run.shows("16: no more than 200", """
-            9 x feed(1, 2, 3, 4, 5) = 180; feed(1, 2, 3, 4, 5) = 200; feed(1, 2, 3, 4, 5) = -1; feed(0, 0, 0, 0, 0) = -1; count(6) = 200
+            9 x feed(1, 2, 3, 4, 5) = 180; feed(1, 2, 3, 4, 5) = 200; feed(1, 2, 3, 4, 5) = -1; feed(0, 0, 0, 0, 0) = -1
+            count(6) = 200
             """);
         Run.shows("16: of 180 bytes it goes, of 181 none comes", """
-            10 x feed(538976288, 538976288, 538976288, 538976288, 538976288); end(181); feed(0, 0, 0, 0, 0) = -1; count(6) = 181
+            10 x feed(538976288, 538976288, 538976288, 538976288, 538976288); end(181); feed(0, 0, 0, 0, 0) = -1
+            count(6) = 181
             end(180); feed(538976288, 538976288, 538976288, 538976288, 538976288) = 200; open() = 0
             """);
         Run.shows("16: behind what end() has left, on any byte", """
-            feed(1667788649, 1914712352, 1, 1, 1); end(8); feed(996958580, 1696610304, 1, 1, 1) = 28; end(15) = 15; count(6) = 15
+            feed(1667788649, 1914712352, 1, 1, 1); end(8); feed(996958580, 1696610304, 1, 1, 1) = 28; end(15) = 15
+            count(6) = 15
             canon(); open() = 0; votes(0, true); close(0) = 0; holds(0, 0, 0) = 1; holds(0, 0, 1) = 8
             """);
         Run.shows("16: while a VOTE is OPEN, and what is voted on stays", """
             canon(); tape('choir 7'); open(); tape('choir 8'); end(0); votes(0, true); close(0) = 0; holds(0, 0, 0) = 7
             """);
         Run.shows("16: behind open() it begins anew", "tape('choir 1'); open(); feed(1, 2, 3, 4, 5) = 20");
-        Run.shows("16: it names no end of the DAYS", "400 x night(); feed(1, 2, 3, 4, 5) = 20; count(6) = 20; end(7) = 7; end(8) = -1; feed(1, 1, 1, 1, 1) = 27");
+        Run.shows("16: it names no end of the DAYS", """
+            400 x night(); feed(1, 2, 3, 4, 5) = 20; count(6) = 20; end(7) = 7; end(8) = -1; feed(1, 1, 1, 1, 1) = 27
+            """);
     }
 
     /** A byte that can't stand anywhere tells by its FAULT in which place it came. */
@@ -61,15 +66,21 @@ public final class TapeEdgesTest {
 
     private static void end() {
         Run.shows("17: its first n bytes alone: n", """
-            canon(); tape('choir 1;late 8'); end(14) = 14; end(7) = 7; count(6) = 7; open(); votes(0, true); close(0) = 0
+            canon(); tape('choir 1;late 8'); end(14) = 14; end(7) = 7; count(6) = 7; open(); votes(0, true)
+            close(0) = 0
             holds(0, 0, 0) = 1; holds(0, 0, 1) = 1
             """);
         Run.shows("17: NONE if it has not so many", """
-            end(1) = -1; end(0) = 0; feed(1, 1, 1, 1, 1); end(21) = -1; end(MAX) = -1; end(200) = -1; count(6) = 20; end(20) = 20
+            end(1) = -1; end(0) = 0; feed(1, 1, 1, 1, 1); end(21) = -1; end(MAX) = -1; end(200) = -1; count(6) = 20
+            end(20) = 20
             end(19) = 19; end(20) = -1; count(6) = 19
             """);
-        Run.shows("17: NONE if n is below 0", "end(-1) = -1; feed(1, 1, 1, 1, 1); end(-1) = -1; end(MIN) = -1; count(6) = 20; end(0) = 0; end(-1) = -1");
-        Run.shows("17: of the full TAPE", "10 x feed(1, 1, 1, 1, 1); end(201) = -1; end(200) = 200; end(199) = 199; end(200) = -1; count(6) = 199");
+        Run.shows("17: NONE if n is below 0", """
+            end(-1) = -1; feed(1, 1, 1, 1, 1); end(-1) = -1; end(MIN) = -1; count(6) = 20; end(0) = 0; end(-1) = -1
+            """);
+        Run.shows("17: of the full TAPE", """
+            10 x feed(1, 1, 1, 1, 1); end(201) = -1; end(200) = 200; end(199) = 199; end(200) = -1; count(6) = 199
+            """);
         Run.shows("17: what was cut off does not come again", """
             canon(); tape('choir 1;late 8'); end(8); feed(1768713248, 0, 0, 0, 0); end(12); open() = fault 12 0
             """);
@@ -77,42 +88,59 @@ public final class TapeEdgesTest {
 
     private static void open() {
         Run.shows("18: 0, and the TAPE is empty then", "tape('choir 1'); open() = 0; count(6) = 0; vote(3) = 1");
-        Run.shows("18: of an empty TAPE", "canon(); open() = 0; vote(3) = 1; votes(0, true); close(0) = 0; holds(0, 0, 0) = 2; holds(0, 0, 6) = 0");
+        Run.shows("18: of an empty TAPE", """
+            canon(); open() = 0; vote(3) = 1; votes(0, true); close(0) = 0; holds(0, 0, 0) = 2; holds(0, 0, 6) = 0
+            """);
         Run.shows("18: -2 - its FAULT, and no VOTE is OPEN", """
-            canon(); tape('choir'); open() = fault 5 0; vote(3) = -1; votes(0, true) = false; gives(0, 0) = false; close(0) = -1; count(5) = 0
+            canon(); tape('choir'); open() = fault 5 0; vote(3) = -1; votes(0, true) = false; gives(0, 0) = false
+            close(0) = -1; count(5) = 0
             """);
         Run.shows("18: a FAULT leaves the VOTE that was last as it was", """
             2 x canon(); open(); votes(0, true); votes(1, false); close(0) = -2; tape('x'); open() = fault 0 0
             vote(0) = 1; vote(1) = 1; vote(2) = 0; vote(3) = 0
             """);
         Run.shows("18: behind a FAULT another may be OPENED, and nothing of the faulty text holds", """
-            canon(); tape('choir 7;hour 1 8;late x'); open() = fault 22 0; tape('choir 7;late 1'); open() = 0; votes(0, true); close(0) = 0
+            canon(); tape('choir 7;hour 1 8;late x'); open() = fault 22 0; tape('choir 7;late 1'); open() = 0
+            votes(0, true); close(0) = 0
             holds(0, 0, 0) = 7; holds(0, 0, 11) = 1; holds(0, 0, 1) = 1
             """);
         Run.shows("18: the votes begin anew", """
-            3 x canon(); open(); votes(0, true); votes(1, false); gives(2, 0); close(0) = 0; open(); vote(0) = 0; vote(1) = 0; vote(2) = 3
+            3 x canon(); open(); votes(0, true); votes(1, false); gives(2, 0); close(0) = 0; open(); vote(0) = 0
+            vote(1) = 0; vote(2) = 3
             gives(1, 2) = true; gives(0, 2) = true
             """);
     }
 
     private static void openRefused() {
         Run.shows("18: NONE: one is OPEN", """
-            canon(); tape('choir 7'); open(); tape('choir 8'); open() = -1; count(6) = 7; votes(0, true); close(0) = 0; holds(0, 0, 0) = 7
+            canon(); tape('choir 7'); open(); tape('choir 8'); open() = -1; count(6) = 7; votes(0, true); close(0) = 0
+            holds(0, 0, 0) = 7
             open() = 0; votes(0, true); close(0) = 1; holds(0, 0, 0) = 8
             """);
-        Run.shows("18: NONE: one is OPEN, though the text is faulty", "tape('choir 7'); open(); tape('choir'); open() = -1; count(6) = 5");
+        Run.shows("18: NONE: one is OPEN, though the text is faulty", """
+            tape('choir 7'); open(); tape('choir'); open() = -1; count(6) = 5
+            """);
         StringBuilder nine = new StringBuilder("canon()\n");
         for (int act = 0; act < 9; act++) {
             nine.append("open() = 0; votes(0, true); close(0) = ").append(act).append('\n');
         }
         Run.shows("18: NONE: 10 ACTS", nine + """
-            count(5) = 9; open() = 0; votes(0, true); close(0) = 9; count(5) = 10; tape('choir 7'); open() = -1; count(6) = 7
+            count(5) = 9; open() = 0; votes(0, true); close(0) = 9; count(5) = 10; tape('choir 7'); open() = -1
+            count(6) = 7
             undo(9); undo(0); open() = -1; count(6) = 7; vote(3) = 0; close(0) = -1; count(5) = 10; holds(0, 0, 6) = 8
             """);
-        Run.shows("18: NONE: 10 ACTS, though the text is faulty", nine + "open(); votes(0, true); close(0) = 9; tape('choir'); open() = -1; count(6) = 5");
-        Run.shows("18: of 9 ACTS the VOTE that fails makes none", nine + "open(); close(0) = -2; count(5) = 9; open() = 0; votes(0, true); close(0) = 9");
-        Run.shows("18: NONE: the end", "399 x night(); open() = 0; close(0) = -2; tape('choir 7'); night(); open() = -1; count(6) = 7; vote(3) = 0");
-        Run.shows("18: NONE: the end, though the text is faulty", "tape('choir'); 400 x night(); open() = -1; count(6) = 5");
+        Run.shows("18: NONE: 10 ACTS, though the text is faulty", nine + """
+            open(); votes(0, true); close(0) = 9; tape('choir'); open() = -1; count(6) = 5
+            """);
+        Run.shows("18: of 9 ACTS the VOTE that fails makes none", nine + """
+            open(); close(0) = -2; count(5) = 9; open() = 0; votes(0, true); close(0) = 9
+            """);
+        Run.shows("18: NONE: the end", """
+            399 x night(); open() = 0; close(0) = -2; tape('choir 7'); night(); open() = -1; count(6) = 7; vote(3) = 0
+            """);
+        Run.shows("18: NONE: the end, though the text is faulty", """
+            tape('choir'); 400 x night(); open() = -1; count(6) = 5
+            """);
     }
 
     private static void alone(String clause, int what, int number) {
@@ -181,9 +209,11 @@ public final class TapeEdgesTest {
             boolean isDigit = b >= '0' && b <= '9';
             boolean isLetter = b >= 'a' && b <= 'z';
             Run.reads(at + " alone", "" + b, b == ' ' ? "0" : "fault 0 0");
-            Run.reads(at + " behind a WORD", "choir" + b, isDigit ? "0" : isLetter ? "fault 0 0" : b == ' ' ? "fault 6 0" : "fault 5 0");
+            Run.reads(at + " behind a WORD", "choir" + b,
+                isDigit ? "0" : isLetter ? "fault 0 0" : b == ' ' ? "fault 6 0" : "fault 5 0");
             Run.reads(at + " in place of a NUMBER", "choir " + b, isDigit ? "0" : b == ' ' ? "fault 7 0" : "fault 6 0");
-            Run.reads(at + " behind a NUMBER", "choir 1" + b, b == ' ' ? "0" : isDigit ? "fault 6 1" : b == ';' ? "fault 8 0" : "fault 7 0");
+            Run.reads(at + " behind a NUMBER", "choir 1" + b,
+                b == ' ' ? "0" : isDigit ? "fault 6 1" : b == ';' ? "fault 8 0" : "fault 7 0");
             Run.reads(at + " behind ';'", "choir 1;" + b, b == ' ' ? "fault 9 0" : "fault 8 0");
             Run.reads(at + " behind h", "hour 1 " + b, isDigit ? "0" : b == ' ' ? "fault 8 0" : "fault 7 0");
             Run.reads(at + " in a WORD", "cho" + b + "ir 1", "fault 0 0");
@@ -191,7 +221,8 @@ public final class TapeEdgesTest {
     }
 
     private static void clauses() {
-        Run.reads("II: each once, all thirteen", "proxy 9;hour 6 1;quorum 0;hour 5 1;business 1;hour 4 1;ill 1;hour 3 1;late 1;hour 2 1;choir 1;hour 1 1;hour 0 1", "0");
+        Run.reads("II: each once, all thirteen", "proxy 9;hour 6 1;quorum 0;hour 5 1;business 1;hour 4 1;ill 1;hour 3 1;"
+            + "late 1;hour 2 1;choir 1;hour 1 1;hour 0 1", "0");
         Run.reads("II: a WORD short by a letter", "choi 1", "fault 0 0");
         Run.reads("II: a WORD long by a letter", "choirs 1", "fault 0 0");
         Run.reads("II: a WORD short of its first letter", "hoir 1", "fault 0 0");
@@ -201,9 +232,14 @@ public final class TapeEdgesTest {
         for (String word : WORDS) {
             Run.reads("II: a WORD of all but its last letter", word.substring(0, word.length() - 1) + " 1", "fault 0 0");
             Run.reads("II: a WORD of one letter more", word + "e 1", "fault 0 0");
+            for (int i = 0; i < word.length(); i++) {
+                String wrong = word.substring(0, i) + "z" + word.substring(i + 1);
+                Run.reads("II: a WORD with one letter wrong", wrong + " 1", "fault 0 0");
+            }
         }
         Run.reads("II: hours", "hours 1 1", "fault 0 0");
         Run.reads("II: hou", "hou 1 1", "fault 0 0");
+        Run.reads("II: four", "four 1 1", "fault 0 0");
         Run.reads("II: a NUMBER in place of a WORD", "1 choir", "fault 0 0");
         Run.reads("II: no ';' between", "choir 1 late 2", "fault 8 0");
         Run.reads("II: a second NUMBER", "choir 1 2", "fault 8 0");
@@ -254,7 +290,8 @@ public final class TapeEdgesTest {
             Run.reads("II: hour told once for each HOUR", "hour " + hour + " 1;hour " + (hour + 1) % HOURS + " 2", "0");
         }
         Run.reads("II: the same HOUR in other digits", "hour 1 1;hour 001 2", "fault 14 2");
-        Run.reads("II: h is no CLAUSE of another WORD", "choir 1;late 1;ill 1;business 1;quorum 1;proxy 1;hour 0 1;hour 6 1", "0");
+        Run.reads("II: h is no CLAUSE of another WORD",
+            "choir 1;late 1;ill 1;business 1;quorum 1;proxy 1;hour 0 1;hour 6 1", "0");
     }
 
     private static void firstAlongIt() {

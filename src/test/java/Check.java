@@ -1,12 +1,15 @@
-/** Counts the answers that are not as due, and feeds texts to a book. */
-final class Check {
+/**
+ * Counts the answers that are not as due, and feeds texts to a book. What is public here is so
+ * for the examples of README.md, which ReadmeTest loads apart from the other classes.
+ */
+public final class Check {
     private static int checked = 0;
     private static int wrong = 0;
 
     private Check() {
     }
 
-    static void due(String call, int got, int want) {
+    public static void due(String call, int got, int want) {
         checked++;
         if (got != want) {
             wrong++;
@@ -14,7 +17,7 @@ final class Check {
         }
     }
 
-    static void due(String call, boolean got, boolean want) {
+    public static void due(String call, boolean got, boolean want) {
         due(call, got ? 1 : 0, want ? 1 : 0);
     }
 
